@@ -1234,6 +1234,14 @@ public final class IcicleClock {
             }
         }
 
+        void passUnder(Street street, int eave) {
+            for (int icicle = 0; icicle < street.icicles; icicle++) {
+                if (street.eaveOf[icicle] == eave) {
+                    fall[icicle] = fallOf(street, eave, street.lengthHung[icicle]);
+                }
+            }
+        }
+
         int fallOf(Street street, int eave, int length) {
             int left = length;
             for (int day = 0; day < street.days; day++) {
@@ -1429,18 +1437,25 @@ public final class IcicleClock {
                 Arrays.fill(tally[icicle], 0);
             }
             winter.warm = 0;
+            winter.passOver(street);
             for (int eave = 0; eave < street.eaves; eave++) {
-                for (int day = 0; day < street.days; day++) {
-                    winter.doorEave = eave;
-                    winter.doorDay = day;
-                    winter.passOver(street);
-                    if (seen.fits(street, winter)) {
-                        note(street, winter);
-                    }
+                searchUnder(street, winter, seen, eave);
+            }
+        }
+
+        /** A door is felt under its own eave alone: all others stay as they were reckoned. */
+        private void searchUnder(Street street, Winter winter, Seen seen, int eave) {
+            winter.doorEave = eave;
+            for (int day = 0; day < street.days; day++) {
+                winter.doorDay = day;
+                winter.passUnder(street, eave);
+                if (seen.fits(street, winter)) {
+                    note(street, winter);
                 }
             }
             winter.doorEave = NONE;
             winter.doorDay = NONE;
+            winter.passUnder(street, eave);
         }
 
         private void note(Street street, Winter winter) {
@@ -1597,10 +1612,12 @@ public final class IcicleClock {
         final long[] hanging = new long[MOST_DAYS + 1];
         final long[] weight = new long[MOST_DAYS];
         final long[] whole = new long[MOST_DAYS];
+        private int mostWarm;
 
         void weigh(Street street, Winter winter, int eave, int length, int last) {
             Arrays.fill(hanging, 0L);
             hanging[0] = 1;
+            mostWarm = 0;
             long all = 1;
             int left = length;
             for (int day = 0; day <= last && day < street.days; day++) {
@@ -1615,7 +1632,8 @@ public final class IcicleClock {
         }
 
         private void warmOrNot(int odds) {
-            for (int warm = MOST_DAYS; warm > 0; warm--) {
+            mostWarm = Math.min(mostWarm + 1, MOST_DAYS);
+            for (int warm = mostWarm; warm > 0; warm--) {
                 hanging[warm] = hanging[warm] * (10 - odds) + hanging[warm - 1] * odds;
             }
             hanging[0] *= 10 - odds;
@@ -1623,7 +1641,7 @@ public final class IcicleClock {
 
         private long letFall(int left, int sun) {
             long fallen = 0;
-            for (int warm = 0; warm <= MOST_DAYS; warm++) {
+            for (int warm = 0; warm <= mostWarm; warm++) {
                 if (left - warm * sun <= 0) {
                     fallen += hanging[warm];
                     hanging[warm] = 0;
@@ -1634,7 +1652,7 @@ public final class IcicleClock {
 
         int likeliestDay(int days) {
             long most = 0;
-            for (int warm = 0; warm <= MOST_DAYS; warm++) {
+            for (int warm = 0; warm <= mostWarm; warm++) {
                 most += hanging[warm];
             }
             int found = NONE;
