@@ -9,6 +9,7 @@ public final class SeenTest {
         ask();
         slamsRefused();
         weathers();
+        warmestWeather();
         weathersWithoutDays();
         weathersRefused();
         chances();
@@ -102,6 +103,8 @@ public final class SeenTest {
         row("none fits", new long[] {x.weathers(0, 2), x.weather(0, 2, 0), x.warmth(0, 2, 0), x.warmth(0, 2, 1)}, 0, -1, -1, -1);
         Due.see(x, 0, 2, 0, 2, 1);
         row("one on two days", new long[] {x.weathers(0, 2), x.weather(0, 2, 1), x.warmth(0, 2, 1)}, 0, -1, -1);
+        Due.see(x, 0, 2, 0, 2, -1);
+        row("and never, of one day", new long[] {x.weathers(0, 1), x.warmth(0, 1, 0), x.warmth(0, 1, 1)}, 0, -1, -1);
         x.ring(0);
         x.door(0, 0);
         Due.see(x, 0, 0, 1, 1, -1);
@@ -109,6 +112,21 @@ public final class SeenTest {
         x.anew();
         x.hung(1, 4);
         Due.due("by the length at which it is hung", x.weathers(0, 2), 0);
+    }
+
+    private static void warmestWeather() {
+        IcicleClock x = Due.street("street slam 0 bell 0 odds 0;" + "day frost 1;".repeat(5) + "eave sun 1;eave sun 4;"
+            + "icicle at 0 length 15 hour 1;icicle at 1 length 57 hour 1;icicle at 0 length 16 hour 1;icicle at 1 length 56 hour 1;");
+        Due.see(x, 0, 0, 4);
+        row("all threes", new long[] {x.weathers(0, 5), x.weather(0, 5, 0), x.weather(0, 5, 4), x.warmth(0, 5, 0),
+            x.warmth(0, 5, 1)}, 1, 3, 3, 15, 15);
+        Due.see(x, 0, 1, 4);
+        row("57 by fours needs 15, too", new long[] {x.weathers(0, 5), x.warmth(0, 5, 0)}, 1, 15);
+        Due.see(x, 0, 3, 4);
+        row("56 by fours needs 14", new long[] {x.weathers(0, 5), x.weather(0, 5, 0), x.warmth(0, 5, 0), x.warmth(0, 5, 1)},
+            6, 2, 14, 15);
+        Due.see(x, 0, 2, 4);
+        row("16 is beyond", new long[] {x.weathers(0, 5), x.weather(0, 5, 0), x.warmth(0, 5, 1)}, 0, -1, -1);
     }
 
     private static void weathersWithoutDays() {
@@ -180,5 +198,8 @@ public final class SeenTest {
         Due.due("the first of several", x.likely(0), 0);
         Due.tell(x, "street slam 3 bell 2 odds 6;day thaw 0;day thaw 0;eave sun 1;icicle at 0 length 1 hour 1;");
         Due.due("on day 0 by 6 in 10, never by 16 in 100", x.likely(0), 0);
+        Due.tell(x, "street slam 3 bell 2 odds 6;day frost 0;day frost 0;eave sun 1;icicle at 0 length 3 hour 1;");
+        x.door(0, 1);
+        Due.due("surely, without any day of thaw", x.likely(0), 1);
     }
 }

@@ -24,6 +24,7 @@ public final class StreetTest {
         rounds(x);
         wrongOnes(x);
         firstBeyond(x);
+        longestLength();
         edges();
         Due.finish();
     }
@@ -152,6 +153,20 @@ public final class StreetTest {
             x.hang(5), x.under(3), x.time(3, 0), x.hour(5), x.meet(0, 3), x.apart(3, 0), x.size(5, 0), x.sizes(0, 5),
             x.place(0, 5), x.best(5), x.offs(5), x.doors(5, 0), x.next(0, 5), x.longest(5)},
             -2, -2, -2, -2, -2, -2, -2, -2, -2, -2, -2, -2, -2, -2, -2, -2, -2, -2, -2, -2);
+    }
+
+    /** Seven doors of 14 take 98 on day 0, the thaw one more on day 1: only a length of 99 falls then. */
+    private static void longestLength() {
+        IcicleClock x = Due.street("street slam 14 bell 0 odds 0;day thaw 0;day thaw 1;eave sun 1;"
+            + "icicle at 0 length 5 hour 1;due hour 1 on 1;");
+        for (int door = 0; door < 7; door++) {
+            x.door(0, 0);
+        }
+        row("99 alone", new int[] {x.size(0, 1), x.sizes(0, 1), x.best(0), x.offs(0), x.surest(0, 1), x.size(0, 0), x.sizes(0, 0)},
+            99, 1, 99, 0, 99, 1, 98);
+        x.door(0, 0);
+        row("not even that", new int[] {x.size(0, 1), x.sizes(0, 1), x.best(0), x.offs(0), x.surest(0, 1), x.sizes(0, 0)},
+            -1, 0, 1, 1, -1, 99);
     }
 
     private static void edges() {

@@ -12,6 +12,7 @@ public final class TextTest {
         tokens();
         firstFault();
         misplaced();
+        nearlyTokens();
         outOfBounds();
         tooMany();
         faultStaysOrGoes();
@@ -174,6 +175,31 @@ public final class TextTest {
         faulty(HEAD + "eave sun 1;icicle at 0 length 5;", 1, 59);
         faulty(HEAD + "day thaw 1;due hour 1;", 1, 49);
         faulty(HEAD + "day thaw 1;due on 0;", 1, 43);
+    }
+
+    /** Neighbours of the bytes that tokens have, and words that are nearly right. */
+    private static void nearlyTokens() {
+        faulty(HEAD + "dayz thaw 1;", 1, 28);
+        faulty(HEAD + "day{thaw 1;", 1, 31);
+        faulty(HEAD + "day`thaw 1;", 1, 31);
+        faulty(HEAD + "day thaw /1;", 1, 37);
+        faulty(HEAD + "day thaw :1;", 1, 37);
+        faulty(HEAD + "day thaw 1:", 1, 38);
+        faulty(HEAD + "day thaw 1<", 1, 38);
+        faulty(HEAD + "day\rthaw 1;", 1, 31);
+        faulty(HEAD + "day!thaw 1;", 1, 31);
+        faulty(HEAD + "day\u000bthaw 1;", 1, 31);
+        faulty("ztreet slam 3 bell 2 odds 5;", 1, 0);
+        faulty("streez slam 3 bell 2 odds 5;", 1, 0);
+        faulty("street xlam 3 bell 2 odds 5;", 1, 7);
+        faulty("street slam 3 xell 2 odds 5;", 1, 14);
+        faulty("street slam 3 bell 2 odd 5;", 1, 21);
+        faulty(HEAD + "say thaw 1;", 1, 28);
+        faulty(HEAD + "dax thaw 1;", 1, 28);
+        faulty(HEAD + "xave sun 1;", 1, 28);
+        faulty(HEAD + "eave son 1;", 1, 33);
+        faulty(HEAD + "xcicle at 0 length 1 hour 1;", 1, 28);
+        faulty(HEAD + "xue hour 1 on 0;", 1, 28);
     }
 
     private static void outOfBounds() {

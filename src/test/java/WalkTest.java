@@ -40,6 +40,11 @@ public final class WalkTest {
         y.door(2, 1);
         y.door(3, 0);
         row("beside alone", new int[] {y.walk(), y.walks(0), y.walks(1), y.ways()}, 0, 2, 3, 1);
+        y.anew();
+        y.door(0, 0);
+        y.door(1, 0);
+        y.door(3, 0);
+        row("not two down", new int[] {y.walk(), y.walks(0), y.walks(1), y.ways()}, 0, 2, 1, 3);
     }
 
     private static void manyWays() {
