@@ -16,17 +16,11 @@ public final class RowTest {
         Due.finish();
     }
 
-    private static void row(String name, int[] got, int... want) {
-        for (int i = 0; i < want.length; i++) {
-            Due.due(name + " " + i, got[i], want[i]);
-        }
-    }
-
     private static void rows() {
         IcicleClock x = Due.street(TEXT);
-        row("slots", new int[] {x.row(0, 0, 0), x.count(10), x.row(3, 3, 60), x.count(10), x.row(0, 1, 2), x.count(10)},
+        Due.row("slots", new long[] {x.row(0, 0, 0), x.count(10), x.row(3, 3, 60), x.count(10), x.row(0, 1, 2), x.count(10)},
             0, 1, 0, 2, 0, 2);
-        row("all 0: icicle 0 falls on 0", new int[] {x.calm(0), x.calm(3)}, 1, 1);
+        Due.row("all 0: icicle 0 falls on 0", new long[] {x.calm(0), x.calm(3)}, 1, 1);
         x.write(0, 0, 1);
         Due.due("icicle 1 does not", x.calm(0), 0);
         Due.due("in place of another one", x.row(0, 1, 2), 0);
@@ -39,19 +33,19 @@ public final class RowTest {
     private static final class Tells {
         static void noStreetNeeded() {
             IcicleClock x = new IcicleClock();
-            row("without a street", new int[] {x.row(1, 2, 3), x.write(1, 2, 9), x.paste(1, 2, 1, 0, 1), x.count(10)}, 0, 0, 0, 1);
+            Due.row("without a street", new long[] {x.row(1, 2, 3), x.write(1, 2, 9), x.paste(1, 2, 1, 0, 1), x.count(10)}, 0, 0, 0, 1);
         }
     }
 
     private static void rowsRefused() {
         IcicleClock x = Due.street(TEXT);
-        row("none such", new int[] {x.row(4, 0, 1), x.row(-1, 0, 1), x.row(0, 4, 1), x.row(0, -1, 1), x.row(0, 0, 61),
+        Due.row("none such", new long[] {x.row(4, 0, 1), x.row(-1, 0, 1), x.row(0, 4, 1), x.row(0, -1, 1), x.row(0, 0, 61),
             x.row(0, 0, Integer.MAX_VALUE), x.count(10)}, -2, -2, -2, -2, -2, -2, 0);
-        row("-2 ahead of -3", new int[] {x.row(4, 0, -1), x.row(0, 4, -1)}, -2, -2);
-        row("below 0", new int[] {x.row(0, 0, -1), x.row(0, 0, Integer.MIN_VALUE), x.count(10)}, -3, -3, 0);
+        Due.row("-2 ahead of -3", new long[] {x.row(4, 0, -1), x.row(0, 4, -1)}, -2, -2);
+        Due.row("below 0", new long[] {x.row(0, 0, -1), x.row(0, 0, Integer.MIN_VALUE), x.count(10)}, -3, -3, 0);
         x.row(0, 1, 2);
         x.write(0, 0, 1);
-        row("the slot stays", new int[] {x.row(0, 2, -1), x.calm(0), x.row(0, 2, 61), x.calm(0), x.write(0, 2, 0)}, -3, 0, -2, 0, -7);
+        Due.row("the slot stays", new long[] {x.row(0, 2, -1), x.calm(0), x.row(0, 2, 61), x.calm(0), x.write(0, 2, 0)}, -3, 0, -2, 0, -7);
     }
 
     private static void widths() {
@@ -76,10 +70,10 @@ public final class RowTest {
 
     private static void writesRefused() {
         IcicleClock x = new IcicleClock();
-        row("no such slot", new int[] {x.write(4, 0, 0), x.write(-1, 0, 0), x.write(4, -1, 0)}, -2, -2, -2);
-        row("nothing there", new int[] {x.write(0, 0, 0), x.write(0, -1, 0)}, -6, -6);
+        Due.row("no such slot", new long[] {x.write(4, 0, 0), x.write(-1, 0, 0), x.write(4, -1, 0)}, -2, -2, -2);
+        Due.row("nothing there", new long[] {x.write(0, 0, 0), x.write(0, -1, 0)}, -6, -6);
         x.row(0, 0, 3);
-        row("no such number", new int[] {x.write(0, 3, 0), x.write(0, -1, 0), x.write(0, Integer.MIN_VALUE, 0),
+        Due.row("no such number", new long[] {x.write(0, 3, 0), x.write(0, -1, 0), x.write(0, Integer.MIN_VALUE, 0),
             x.write(0, Integer.MAX_VALUE, 0), x.write(0, 2, 0)}, -7, -7, -7, -7, 0);
         x.row(0, 0, 0);
         Due.due("a row of none has no number", x.write(0, 0, 0), -7);
@@ -124,17 +118,17 @@ public final class RowTest {
         x.row(0, 1, 4);
         x.row(1, 2, 4);
         x.row(2, 1, 3);
-        row("no such slot ahead of all", new int[] {x.paste(4, 0, 0, 0, 1), x.paste(0, 0, 4, 0, 1), x.paste(-1, 0, 3, 0, 1),
+        Due.row("no such slot ahead of all", new long[] {x.paste(4, 0, 0, 0, 1), x.paste(0, 0, 4, 0, 1), x.paste(-1, 0, 3, 0, 1),
             x.paste(3, 0, -1, -1, -1)}, -2, -2, -2, -2);
-        row("nothing there ahead of the rest", new int[] {x.paste(0, 0, 3, 0, 1), x.paste(3, 0, 0, 0, 1), x.paste(3, -1, 1, 9, -1),
+        Due.row("nothing there ahead of the rest", new long[] {x.paste(0, 0, 3, 0, 1), x.paste(3, 0, 0, 0, 1), x.paste(3, -1, 1, 9, -1),
             x.paste(3, 0, 3, 0, 0)}, -6, -6, -6, -6);
-        row("not of one width, ahead of places", new int[] {x.paste(0, 0, 1, 0, 1), x.paste(1, 9, 0, 0, -1), x.paste(0, 0, 1, 0, 0)},
+        Due.row("not of one width, ahead of places", new long[] {x.paste(0, 0, 1, 0, 1), x.paste(1, 9, 0, 0, -1), x.paste(0, 0, 1, 0, 0)},
             -8, -8, -8);
-        row("beyond", new int[] {x.paste(0, 3, 2, 0, 2), x.paste(0, 0, 2, 0, 4), x.paste(0, 0, 2, 2, 2), x.paste(0, 4, 2, 0, 1)},
+        Due.row("beyond", new long[] {x.paste(0, 3, 2, 0, 2), x.paste(0, 0, 2, 0, 4), x.paste(0, 0, 2, 2, 2), x.paste(0, 4, 2, 0, 1)},
             -7, -7, -7, -7);
-        row("below 0", new int[] {x.paste(0, -1, 2, 0, 1), x.paste(0, 0, 2, -1, 1), x.paste(0, 0, 2, 0, -1)}, -7, -7, -7);
+        Due.row("below 0", new long[] {x.paste(0, -1, 2, 0, 1), x.paste(0, 0, 2, -1, 1), x.paste(0, 0, 2, 0, -1)}, -7, -7, -7);
         int far = Integer.MAX_VALUE;
-        row("far", new int[] {x.paste(0, far, 2, 0, far), x.paste(0, 0, 2, far, 1), x.paste(0, 1, 2, 1, far),
+        Due.row("far", new long[] {x.paste(0, far, 2, 0, far), x.paste(0, 0, 2, far, 1), x.paste(0, 1, 2, 1, far),
             x.paste(0, Integer.MIN_VALUE, 2, 0, Integer.MIN_VALUE)}, -7, -7, -7, -7);
         nothingHappens();
     }

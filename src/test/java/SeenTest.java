@@ -18,34 +18,28 @@ public final class SeenTest {
         Due.finish();
     }
 
-    private static void row(String name, long[] got, long... want) {
-        for (int i = 0; i < want.length; i++) {
-            Due.due(name + " " + i, got[i], want[i]);
-        }
-    }
-
     /** By a door at (0,0): icicle 0 on 0, 1 on 1; at (0,1): 0 on 1, 1 on 1; at (1,0): 2 on 0; at (1,1): 2 on 1. */
     private static void slams() {
         IcicleClock x = Due.street(TWO);
         x.row(0, 1, 0);
-        row("nothing seen", new long[] {x.slams(0), x.slam(0), x.calm(0)}, 4, 0, 1);
+        Due.row("nothing seen", new long[] {x.slams(0), x.slam(0), x.calm(0)}, 4, 0, 1);
         Due.see(x, 0, 0, 0);
-        row("icicle 0 on 0", new long[] {x.slams(0), x.slam(0), x.calm(0)}, 1, 0, 0);
+        Due.row("icicle 0 on 0", new long[] {x.slams(0), x.slam(0), x.calm(0)}, 1, 0, 0);
         Due.see(x, 0, 1, 1);
-        row("icicle 1 on 1", new long[] {x.slams(0), x.slam(0), x.calm(0)}, 2, 0, 0);
+        Due.row("icicle 1 on 1", new long[] {x.slams(0), x.slam(0), x.calm(0)}, 2, 0, 0);
         Due.see(x, 0, 1, 1, 0, 1);
-        row("and 0 on 1", new long[] {x.slams(0), x.slam(0), x.calm(0)}, 1, 1, 0);
+        Due.row("and 0 on 1", new long[] {x.slams(0), x.slam(0), x.calm(0)}, 1, 1, 0);
         Due.see(x, 0, 0, -1, 1, -1);
-        row("neither falls", new long[] {x.slams(0), x.slam(0), x.calm(0)}, 2, 100, 1);
+        Due.row("neither falls", new long[] {x.slams(0), x.slam(0), x.calm(0)}, 2, 100, 1);
         Due.see(x, 0, 2, 1);
-        row("icicle 2 on 1", new long[] {x.slams(0), x.slam(0), x.calm(0)}, 1, 101, 0);
+        Due.row("icicle 2 on 1", new long[] {x.slams(0), x.slam(0), x.calm(0)}, 1, 101, 0);
         Due.see(x, 0, 0, 1, 2, 1);
-        row("none fits", new long[] {x.slams(0), x.slam(0), x.calm(0), x.ask(0)}, 0, -1, 0, -1);
+        Due.row("none fits", new long[] {x.slams(0), x.slam(0), x.calm(0), x.ask(0)}, 0, -1, 0, -1);
         Due.see(x, 0, 0, 0, 0, 1);
-        row("one on two days", new long[] {x.slams(0), x.slam(0), x.calm(0)}, 0, -1, 0);
+        Due.row("one on two days", new long[] {x.slams(0), x.slam(0), x.calm(0)}, 0, -1, 0);
         Due.due("a door more", x.door(1, 1), 1);
         Due.see(x, 0, 2, 1);
-        row("acts are done, too", new long[] {x.slams(0), x.slam(0), x.calm(0)}, 3, 0, 1);
+        Due.row("acts are done, too", new long[] {x.slams(0), x.slam(0), x.calm(0)}, 3, 0, 1);
         Due.due("asking slams nothing", x.count(7), 1);
         Due.due("nor fells", x.falls(0), -1);
     }
@@ -66,45 +60,45 @@ public final class SeenTest {
 
     private static void slamsRefused() {
         IcicleClock x = Due.street(TWO);
-        row("no such slot", new long[] {x.slams(-1), x.slam(4), x.calm(-1), x.ask(4)}, -2, -2, -2, -2);
-        row("nothing there", new long[] {x.slams(0), x.slam(1), x.calm(2), x.ask(3)}, -6, -6, -6, -6);
+        Due.row("no such slot", new long[] {x.slams(-1), x.slam(4), x.calm(-1), x.ask(4)}, -2, -2, -2, -2);
+        Due.row("nothing there", new long[] {x.slams(0), x.slam(1), x.calm(2), x.ask(3)}, -6, -6, -6, -6);
         Due.see(x, 0, 0);
-        row("not two each", new long[] {x.slams(0), x.slam(0), x.calm(0), x.ask(0)}, -2, -2, -2, -2);
+        Due.row("not two each", new long[] {x.slams(0), x.slam(0), x.calm(0), x.ask(0)}, -2, -2, -2, -2);
         Due.see(x, 0, 3, 0);
-        row("no such icicle", new long[] {x.slams(0), x.slam(0), x.calm(0), x.ask(0)}, -2, -2, -2, -2);
+        Due.row("no such icicle", new long[] {x.slams(0), x.slam(0), x.calm(0), x.ask(0)}, -2, -2, -2, -2);
         Due.see(x, 0, -1, 0);
-        row("no such icicle below", new long[] {x.slams(0), x.calm(0)}, -2, -2);
+        Due.row("no such icicle below", new long[] {x.slams(0), x.calm(0)}, -2, -2);
         Due.see(x, 0, 0, 2);
-        row("no such day", new long[] {x.slams(0), x.slam(0), x.calm(0), x.ask(0)}, -2, -2, -2, -2);
+        Due.row("no such day", new long[] {x.slams(0), x.slam(0), x.calm(0), x.ask(0)}, -2, -2, -2, -2);
         Due.see(x, 0, 0, -2);
-        row("no such day below", new long[] {x.slams(0), x.ask(0)}, -2, -2);
+        Due.row("no such day below", new long[] {x.slams(0), x.ask(0)}, -2, -2);
         Due.see(x, 0, 0, 0, 0, 1, 9, 0);
         Due.due("a wrong one behind ones that can't fit", x.slams(0), -2);
         x.row(1, 3, 2);
         x.write(1, 0, 1L << 32);
         Due.due("a long is no icicle", x.slams(1), -2);
         IcicleClock none = new IcicleClock();
-        row("no street is asked ahead of nothing there", new long[] {none.slams(0), none.calm(0)}, -2, -2);
+        Due.row("no street is asked ahead of nothing there", new long[] {none.slams(0), none.calm(0)}, -2, -2);
     }
 
     /** Icicle 0: sums of 4 at least, 1: of 5, 2 (sun 2, length 5): of 3. */
     private static void weathers() {
         IcicleClock x = Due.street(TWO);
         x.row(0, 0, 0);
-        row("nothing seen", new long[] {x.weathers(0, 1), x.weathers(0, 5), x.weather(0, 5, 4), x.warmth(0, 5, 0),
+        Due.row("nothing seen", new long[] {x.weathers(0, 1), x.weathers(0, 5), x.weather(0, 5, 4), x.warmth(0, 5, 0),
             x.warmth(0, 5, 1)}, 4, 1024, 0, 0, 15);
         Due.see(x, 0, 2, 0);
-        row("icicle 2 on 0", new long[] {x.weathers(0, 2), x.weather(0, 2, 0), x.weather(0, 2, 1), x.warmth(0, 2, 0),
+        Due.row("icicle 2 on 0", new long[] {x.weathers(0, 2), x.weather(0, 2, 0), x.weather(0, 2, 1), x.warmth(0, 2, 0),
             x.warmth(0, 2, 1)}, 4, 3, 0, 3, 6);
         Due.see(x, 0, 0, 1, 1, -1);
-        row("a sum of 4 on 1", new long[] {x.weathers(0, 2), x.weather(0, 2, 0), x.weather(0, 2, 1), x.warmth(0, 2, 0),
+        Due.row("a sum of 4 on 1", new long[] {x.weathers(0, 2), x.weather(0, 2, 0), x.weather(0, 2, 1), x.warmth(0, 2, 0),
             x.warmth(0, 2, 1)}, 3, 1, 3, 4, 4);
         Due.see(x, 0, 0, 0);
-        row("none fits", new long[] {x.weathers(0, 2), x.weather(0, 2, 0), x.warmth(0, 2, 0), x.warmth(0, 2, 1)}, 0, -1, -1, -1);
+        Due.row("none fits", new long[] {x.weathers(0, 2), x.weather(0, 2, 0), x.warmth(0, 2, 0), x.warmth(0, 2, 1)}, 0, -1, -1, -1);
         Due.see(x, 0, 2, 0, 2, 1);
-        row("one on two days", new long[] {x.weathers(0, 2), x.weather(0, 2, 1), x.warmth(0, 2, 1)}, 0, -1, -1);
+        Due.row("one on two days", new long[] {x.weathers(0, 2), x.weather(0, 2, 1), x.warmth(0, 2, 1)}, 0, -1, -1);
         Due.see(x, 0, 2, 0, 2, -1);
-        row("and never, of one day", new long[] {x.weathers(0, 1), x.warmth(0, 1, 0), x.warmth(0, 1, 1)}, 0, -1, -1);
+        Due.row("and never, of one day", new long[] {x.weathers(0, 1), x.warmth(0, 1, 0), x.warmth(0, 1, 1)}, 0, -1, -1);
         x.ring(0);
         x.door(0, 0);
         Due.see(x, 0, 0, 1, 1, -1);
@@ -118,22 +112,22 @@ public final class SeenTest {
         IcicleClock x = Due.street("street slam 0 bell 0 odds 0;" + "day frost 1;".repeat(5) + "eave sun 1;eave sun 4;"
             + "icicle at 0 length 15 hour 1;icicle at 1 length 57 hour 1;icicle at 0 length 16 hour 1;icicle at 1 length 56 hour 1;");
         Due.see(x, 0, 0, 4);
-        row("all threes", new long[] {x.weathers(0, 5), x.weather(0, 5, 0), x.weather(0, 5, 4), x.warmth(0, 5, 0),
+        Due.row("all threes", new long[] {x.weathers(0, 5), x.weather(0, 5, 0), x.weather(0, 5, 4), x.warmth(0, 5, 0),
             x.warmth(0, 5, 1)}, 1, 3, 3, 15, 15);
         Due.see(x, 0, 1, 4);
-        row("57 by fours needs 15, too", new long[] {x.weathers(0, 5), x.warmth(0, 5, 0)}, 1, 15);
+        Due.row("57 by fours needs 15, too", new long[] {x.weathers(0, 5), x.warmth(0, 5, 0)}, 1, 15);
         Due.see(x, 0, 3, 4);
-        row("56 by fours needs 14", new long[] {x.weathers(0, 5), x.weather(0, 5, 0), x.warmth(0, 5, 0), x.warmth(0, 5, 1)},
+        Due.row("56 by fours needs 14", new long[] {x.weathers(0, 5), x.weather(0, 5, 0), x.warmth(0, 5, 0), x.warmth(0, 5, 1)},
             6, 2, 14, 15);
         Due.see(x, 0, 2, 4);
-        row("16 is beyond", new long[] {x.weathers(0, 5), x.weather(0, 5, 0), x.warmth(0, 5, 1)}, 0, -1, -1);
+        Due.row("16 is beyond", new long[] {x.weathers(0, 5), x.weather(0, 5, 0), x.warmth(0, 5, 1)}, 0, -1, -1);
     }
 
     private static void weathersWithoutDays() {
         IcicleClock x = Due.street("street slam 3 bell 2 odds 5;eave sun 2;eave sun 0;icicle at 0 length 5 hour 1;"
             + "icicle at 1 length 1 hour 1;");
         Due.see(x, 0, 0, -1, 1, -1);
-        row("n days alone", new long[] {x.weathers(0, 1), x.weathers(0, 2), x.weather(0, 2, 1), x.warmth(0, 2, 1),
+        Due.row("n days alone", new long[] {x.weathers(0, 1), x.weathers(0, 2), x.weather(0, 2, 1), x.warmth(0, 2, 1),
             x.slams(0), x.calm(0)}, 3, 6, 0, 2, 0, 1);
         Due.see(x, 0, 0, 0);
         Due.due("a day that is not told", x.slams(0), -2);
@@ -141,17 +135,17 @@ public final class SeenTest {
 
     private static void weathersRefused() {
         IcicleClock x = Due.street(TWO);
-        row("nothing there", new long[] {x.weathers(0, 1), x.weather(0, 1, 0), x.warmth(0, 1, 0)}, -6, -6, -6);
-        row("no such n ahead of it", new long[] {x.weathers(0, 0), x.weathers(0, 6), x.weather(0, 6, 0), x.warmth(0, 0, 0)},
+        Due.row("nothing there", new long[] {x.weathers(0, 1), x.weather(0, 1, 0), x.warmth(0, 1, 0)}, -6, -6, -6);
+        Due.row("no such n ahead of it", new long[] {x.weathers(0, 0), x.weathers(0, 6), x.weather(0, 6, 0), x.warmth(0, 0, 0)},
             -2, -2, -2, -2);
-        row("no such day of n ahead of it", new long[] {x.weather(0, 1, 1), x.weather(0, 1, -1)}, -2, -2);
-        row("no such what ahead of it", new long[] {x.warmth(0, 1, 2), x.warmth(0, 1, -1)}, -2, -2);
-        row("no such slot", new long[] {x.weathers(4, 1), x.weather(-1, 1, 0), x.warmth(4, 1, 0)}, -2, -2, -2);
+        Due.row("no such day of n ahead of it", new long[] {x.weather(0, 1, 1), x.weather(0, 1, -1)}, -2, -2);
+        Due.row("no such what ahead of it", new long[] {x.warmth(0, 1, 2), x.warmth(0, 1, -1)}, -2, -2);
+        Due.row("no such slot", new long[] {x.weathers(4, 1), x.weather(-1, 1, 0), x.warmth(4, 1, 0)}, -2, -2, -2);
         Due.see(x, 0, 0, 1);
-        row("days n or later", new long[] {x.weathers(0, 1), x.weather(0, 1, 0), x.warmth(0, 1, 0), x.weathers(0, 2)},
+        Due.row("days n or later", new long[] {x.weathers(0, 1), x.weather(0, 1, 0), x.warmth(0, 1, 0), x.weathers(0, 2)},
             -2, -2, -2, 6);
         Due.see(x, 0, 0, 0, 1);
-        row("not two each", new long[] {x.weathers(0, 2), x.weather(0, 2, 0), x.warmth(0, 2, 0)}, -2, -2, -2);
+        Due.row("not two each", new long[] {x.weathers(0, 2), x.weather(0, 2, 0), x.warmth(0, 2, 0)}, -2, -2, -2);
         Due.see(x, 0, 3, 0);
         Due.due("no such icicle", x.weathers(0, 2), -2);
         Due.due("no street", new IcicleClock().weathers(0, 1), -2);
@@ -162,32 +156,32 @@ public final class SeenTest {
         IcicleClock x = Due.street("street slam 3 bell 2 odds 5;day thaw 2;day frost 3;day thaw 4;day thaw 0;day thaw 5;"
             + "eave sun 1;eave sun 3;eave sun 0;icicle at 1 length 20 hour 12;icicle at 1 length 6 hour 9;"
             + "icicle at 2 length 4 hour 6;");
-        row("icicle 0", new long[] {x.chance(0, 0, 0), x.chance(0, 0, 1), x.chance(0, 2, 0), x.chance(0, 2, 1),
+        Due.row("icicle 0", new long[] {x.chance(0, 0, 0), x.chance(0, 0, 1), x.chance(0, 2, 0), x.chance(0, 2, 1),
             x.chance(0, 3, 0), x.chance(0, 3, 1), x.chance(0, 4, 0), x.chance(0, 4, 1)}, 0, 1, 1, 4, 1, 4, 1, 2);
-        row("icicle 1", new long[] {x.chance(1, 0, 0), x.chance(1, 0, 1), x.chance(1, 1, 0), x.chance(1, 1, 1)}, 1, 1, 0, 1);
-        row("icicle 2", new long[] {x.chance(2, 4, 0), x.chance(2, 4, 1)}, 0, 1);
-        row("likely", new long[] {x.likely(0), x.likely(1), x.likely(2)}, 4, 0, -1);
-        row("surest", new long[] {x.surest(0, 0), x.surest(0, 1), x.surest(0, 2), x.surest(0, 3), x.surest(2, 0)},
+        Due.row("icicle 1", new long[] {x.chance(1, 0, 0), x.chance(1, 0, 1), x.chance(1, 1, 0), x.chance(1, 1, 1)}, 1, 1, 0, 1);
+        Due.row("icicle 2", new long[] {x.chance(2, 4, 0), x.chance(2, 4, 1)}, 0, 1);
+        Due.row("likely", new long[] {x.likely(0), x.likely(1), x.likely(2)}, 4, 0, -1);
+        Due.row("surest", new long[] {x.surest(0, 0), x.surest(0, 1), x.surest(0, 2), x.surest(0, 3), x.surest(2, 0)},
             1, -1, 10, 19, -1);
         x.door(1, 2);
-        row("acts are done, too", new long[] {x.chance(0, 2, 0), x.chance(0, 2, 1)}, 3, 4);
+        Due.row("acts are done, too", new long[] {x.chance(0, 2, 0), x.chance(0, 2, 1)}, 3, 4);
     }
 
     private static void warmByOdds() {
         String tail = "day thaw 0;eave sun 1;icicle at 0 length 1 hour 1;";
         IcicleClock x = Due.street("street slam 3 bell 2 odds 4;" + tail);
-        row("thaw 0 is a day of thaw", new long[] {x.chance(0, 0, 0), x.chance(0, 0, 1), x.likely(0)}, 2, 5, -1);
+        Due.row("thaw 0 is a day of thaw", new long[] {x.chance(0, 0, 0), x.chance(0, 0, 1), x.likely(0)}, 2, 5, -1);
         Due.tell(x, "street slam 3 bell 2 odds 0;" + tail);
-        row("never warm", new long[] {x.chance(0, 0, 0), x.chance(0, 0, 1), x.likely(0)}, 0, 1, -1);
+        Due.row("never warm", new long[] {x.chance(0, 0, 0), x.chance(0, 0, 1), x.likely(0)}, 0, 1, -1);
         Due.tell(x, "street slam 3 bell 2 odds 10;" + tail);
-        row("always warm", new long[] {x.chance(0, 0, 0), x.chance(0, 0, 1), x.likely(0)}, 1, 1, 0);
+        Due.row("always warm", new long[] {x.chance(0, 0, 0), x.chance(0, 0, 1), x.likely(0)}, 1, 1, 0);
         Due.tell(x, "street slam 3 bell 2 odds 10;day frost 0;eave sun 1;icicle at 0 length 1 hour 1;");
-        row("frost 0 is not", new long[] {x.chance(0, 0, 0), x.chance(0, 0, 1), x.surest(0, 0)}, 0, 1, -1);
+        Due.row("frost 0 is not", new long[] {x.chance(0, 0, 0), x.chance(0, 0, 1), x.surest(0, 0)}, 0, 1, -1);
         Due.tell(x, "street slam 3 bell 2 odds 3;" + "day thaw 0;".repeat(14) + "eave sun 1;icicle at 0 length 14 hour 1;"
             + "icicle at 0 length 13 hour 1;");
-        row("three to the fourteenth in ten to it", new long[] {x.chance(0, 13, 0), x.chance(0, 13, 1)},
+        Due.row("three to the fourteenth in ten to it", new long[] {x.chance(0, 13, 0), x.chance(0, 13, 1)},
             4782969L, 100000000000000L);
-        row("13 ways to have one cold day of the first 13", new long[] {x.chance(1, 13, 0), x.chance(1, 13, 1)},
+        Due.row("13 ways to have one cold day of the first 13", new long[] {x.chance(1, 13, 0), x.chance(1, 13, 1)},
             13L * 7 * 1594323, 100000000000000L);
     }
 
