@@ -131,6 +131,9 @@ public final class EdgeActsTest {
             40, 99, 99, 1, 1);
         x.ring(0);
         Due.row("from now on", new long[] {x.falls(0), x.late(0), x.undo(), x.falls(0)}, 0, 0, 0, NONE);
+        IcicleClock thaw = Due.street("street slam 1 bell 1 odds 5;day thaw 5;eave sun 1;icicle at 0 length 6 hour 1;");
+        Due.row("it falls by it at once", new long[] {thaw.falls(0), thaw.hung(0, 5), thaw.falls(0), thaw.hour(0), thaw.hung(0, 6),
+            thaw.falls(0)}, NONE, 6, 0, 1, 5, NONE);
         Due.row("the last icicle alone", new long[] {x.hung(2, 7), x.longest(2), x.longest(1), x.longest(0)}, 1, 7, 1, 1);
     }
 

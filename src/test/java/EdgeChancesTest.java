@@ -9,6 +9,7 @@ public final class EdgeChancesTest {
     public static void main(String[] args) {
         thawOfNought();
         lowestTerms();
+        warmAndCold();
         chanceNoneSuch();
         likely();
         likelyNever();
@@ -55,6 +56,16 @@ public final class EdgeChancesTest {
         }
     }
 
+    private static void warmAndCold() {
+        Due.sentence(0, "warm with odds in ten, by itself");
+        IcicleClock x = Due.street(street(3, "day thaw 0;".repeat(14) + "eave sun 1;icicle at 0 length 13 hour 1;"
+            + "icicle at 0 length 1 hour 1;icicle at 0 length 2 hour 1;"));
+        Due.row("on the last day, one of 13 ahead being cold", new long[] {x.chance(0, 13, 0), x.chance(0, 13, 1)},
+            13L * 7 * 1594323, 100000000000000L);
+        Due.row("first on day 2; second on day 2", new long[] {x.chance(1, 2, 0), x.chance(1, 2, 1), x.chance(2, 2, 0),
+            x.chance(2, 2, 1)}, 147, 1000, 63, 500);
+    }
+
     private static void chanceNoneSuch() {
         Due.sentence(44, "-2: there are none such.");
         IcicleClock x = Due.street(street(5, "day thaw 1;day thaw 1;eave sun 1;icicle at 0 length 1 hour 1;"));
@@ -75,6 +86,9 @@ public final class EdgeChancesTest {
         Due.due("four on 0, six on 1", later.likely(0), 1);
         IcicleClock last = Due.street(street(0, "day thaw 0;".repeat(13) + "day thaw 1;" + ice));
         Due.row("surely on the last", new long[] {last.likely(0), last.likely(1)}, 13, NONE);
+        IcicleClock frost = Due.street(street(5, "day frost 0;day frost 0;" + ice));
+        frost.door(0, 1);
+        Due.row("surely, without a day of thaw", new long[] {frost.likely(0), frost.chance(0, 1, 0), frost.chance(0, 1, 1)}, 1, 1, 1);
     }
 
     private static void likelyNever() {
@@ -102,6 +116,8 @@ public final class EdgeChancesTest {
         Due.row("it hangs as it hung", new long[] {y.longest(0), y.falls(0)}, 50, NONE);
         IcicleClock even = Due.street(street(5, "day thaw 1;day thaw 0;day frost 9;day thaw 9;eave sun 1;icicle at 0 length 50 hour 1;"));
         Due.due("1 never, 2 and no other", even.surest(0, 1), 2);
+        IcicleClock least = Due.street(street(1, "day thaw 0;eave sun 1;icicle at 0 length 50 hour 1;"));
+        Due.due("one in ten", least.surest(0, 0), 1);
     }
 
     private static void surestNone() {

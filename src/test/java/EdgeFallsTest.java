@@ -212,6 +212,8 @@ public final class EdgeFallsTest {
         Due.due("two each", x.barest(), 0);
         IcicleClock y = Due.street(STEPS + "icicle at 1 length 14 hour 4;".repeat(3));
         Due.due("three on one day", y.barest(), 1);
+        IcicleClock z = Due.street(HEAD + "day thaw 1;eave sun 1;eave sun 1;icicle at 1 length 1 hour 1;icicle at 0 length 2 hour 1;");
+        Due.row("one in all", new long[] {z.barest(), z.rush()}, 1, 0);
         Due.row("none falls, no eave, no street", new long[] {full.barest(), Due.street(HEAD).barest(),
             new IcicleClock().barest()}, -1, -1, -2);
     }

@@ -148,6 +148,9 @@ public final class EdgeSeenTest {
         Due.due("one is not made fewer", x.ask(0), NONE);
         Due.see(x, 0, 2, 0);
         Due.due("nor none", x.ask(0), NONE);
+        IcicleClock two = Due.street("street slam 3 bell 2 odds 5;day thaw 0;eave sun 1;eave sun 1;icicle at 1 length 3 hour 1;");
+        two.row(0, 0, 0);
+        Due.row("one of two fewer", new long[] {two.slams(0), two.ask(0)}, 2, 0);
         IcicleClock idle = Due.street(FULL.replace("slam 3", "slam 0"));
         idle.row(0, 0, 0);
         Due.row("doors that take nothing", new long[] {idle.slams(0), idle.ask(0)}, 70, NONE);
@@ -166,6 +169,24 @@ public final class EdgeSeenTest {
         x.hung(0, 4);
         Due.row("4 can't be on one day", new long[] {x.weathers(0, 1), x.weather(0, 1, 0), x.warmth(0, 1, 0), x.warmth(0, 1, 1)},
             0, NONE, NONE, NONE);
+        Due.see(x, 0, 1, 0, 1, NONE);
+        Due.row("nor one that falls and never does", three(x, 0, 1), 0, NONE, NONE);
+        warmestAndColdest();
+    }
+
+    /** A length of 15 falls on day 4 if all thaws are 3, one of 1 never if all are 0; without sun it never does. */
+    private static void warmestAndColdest() {
+        IcicleClock x = Due.street("street slam 3 bell 2 odds 5;" + "day frost 9;".repeat(5) + "eave sun 1;eave sun 0;"
+            + "icicle at 0 length 15 hour 1;icicle at 0 length 16 hour 1;icicle at 0 length 1 hour 1;icicle at 1 length 1 hour 1;");
+        Due.see(x, 0, 0, 4);
+        Due.row("all threes", new long[] {x.weathers(0, 5), x.weather(0, 5, 0), x.weather(0, 5, 4), x.warmth(0, 5, 0),
+            x.warmth(0, 5, 1)}, 1, 3, 3, 15, 15);
+        Due.see(x, 0, 1, 4);
+        Due.row("beyond", three(x, 0, 5), 0, NONE, NONE);
+        Due.see(x, 0, 2, NONE);
+        Due.row("all noughts", new long[] {x.weathers(0, 5), x.weather(0, 5, 4), x.warmth(0, 5, 0), x.warmth(0, 5, 1)}, 1, 0, 0, 0);
+        Due.see(x, 0, 3, NONE);
+        Due.row("no sun", new long[] {x.weathers(0, 5), x.warmth(0, 5, 1)}, 1024, 15);
     }
 
     private static void weathersNoSuchN() {

@@ -74,6 +74,8 @@ public final class EdgeSizesTest {
         IcicleClock x = Due.street(SIX_DAYS + "eave sun 0;eave sun 1;eave sun 2;eave sun 3;icicle at 0 length 6 hour 1;");
         Due.row("days", new long[] {x.place(0, 0), x.place(0, 1), x.place(0, 2), x.place(0, 3), x.place(0, 4), x.place(0, 5)},
             3, 3, 2, 2, 1, 1);
+        IcicleClock first = Due.street(SIX_DAYS + "eave sun 2;eave sun 0;icicle at 1 length 6 hour 1;");
+        Due.row("at 0", new long[] {first.place(0, 0), first.place(0, 5)}, 0, 0);
         IcicleClock dark = Due.street(SIX_DAYS + "eave sun 0;eave sun 0;icicle at 1 length 1 hour 1;");
         Due.row("at none", new long[] {dark.place(0, 0), dark.place(0, 5)}, -1, -1);
         IcicleClock far = Due.street(HEAD + "day thaw 1;".repeat(14) + "eave sun 0;eave sun 1;icicle at 0 length 14 hour 1;"
@@ -97,6 +99,10 @@ public final class EdgeSizesTest {
         Due.row("82 to 99", new long[] {x.best(0), x.best(1)}, 82, 1);
         IcicleClock late = Due.street(TO_99 + "due hour 1 on 4;");
         Due.row("nearest to what none reaches", new long[] {late.best(0), late.offs(0)}, 82, 1);
+        IcicleClock steps = Due.street(SIX_DAYS + "eave sun 1;icicle at 0 length 6 hour 1;due hour 1 on 1;");
+        Due.row("2 alone", new long[] {steps.best(0), steps.offs(0)}, 2, 0);
+        IcicleClock first = Due.street(SIX_DAYS + "eave sun 1;icicle at 0 length 6 hour 1;due hour 1 on 0;");
+        Due.row("1 alone", new long[] {first.best(0), first.offs(0)}, 1, 0);
         IcicleClock none = Due.street(TO_99);
         Due.row("no work", new long[] {none.best(0), none.best(1), none.offs(0)}, 1, 1, 0);
         IcicleClock two = Due.street(TO_99 + "due hour 1 on 0;due hour 1 on 2;");

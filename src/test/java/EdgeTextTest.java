@@ -156,6 +156,9 @@ public final class EdgeTextTest {
         faulty("street slam 3 bell 2 odds 1 0;", 1, 28);
         faulty(HEAD + "dayday thaw 1;", 1, 28);
         faulty(HEAD + "da", 1, 28);
+        faulty(HEAD + "say thaw 1;", 1, 28);
+        faulty(HEAD + "dax thaw 1;", 1, 28);
+        faulty(HEAD + "day", 1, 31);
         faulty(HEAD + ";", 1, 28);
     }
 
@@ -309,6 +312,9 @@ public final class EdgeTextTest {
         Due.row("of nothing", new long[] {x.street(), x.off(), x.fault(0), x.fault(1)}, 0, -2, 0, -1);
         Due.row("one line", new long[] {Due.tell(x, HEAD), x.off(), x.rush()}, 1, 0, -1);
         Due.row("an empty tape", new long[] {x.street(), x.off(), x.rush(), x.count(0), x.count(8)}, 0, -2, -2, 0, 0);
+        Due.tell(x, "street slam 20 bell 20 odds 10;");
+        Due.row("nothing of it", new long[] {x.count(1), x.street(), x.count(0), x.count(1), x.count(2), x.count(3), x.count(4),
+            x.count(5), x.count(6), x.count(7), x.count(8), x.count(9)}, 20, 0, 0, 0, 0, 0, 0, 0, 0, 0, 0, 0);
         Due.row("blanks alone", new long[] {Due.tell(x, SMALL), Due.tell(x, " \n\n "), x.falls(0), x.day(0)}, 6, 0, -2, -1000);
         Due.row("and acts", new long[] {Due.tell(x, SMALL), x.ring(0), x.street(), x.count(7), x.undo()}, 6, 1, 0, 0, -2);
     }

@@ -166,6 +166,8 @@ public final class EdgeTimesTest {
         Due.due("farther early than late", y.worst(), 1);
         IcicleClock z = Due.street(WINTER + "due hour 1 on 13;due hour 4 on 0;due hour 3 on 0;");
         Due.due("99, the first", z.worst(), 1);
+        Due.row("one day late; one day early", new long[] {Due.street(WINTER + "due hour 2 on 12;").worst(),
+            Due.street(WINTER + "due hour 1 on 0;due hour 1 on 1;").worst()}, 0, 1);
         Due.row("none is off, no work, no street", new long[] {Due.street(WINTER + "due hour 1 on 0;").worst(),
             Due.street(WINTER).worst(), Due.street(HEAD).worst(), new IcicleClock().worst()}, -1, -1, -1, -2);
     }

@@ -36,6 +36,9 @@ public final class EdgeWalksTest {
         Due.row("eight at once", new long[] {x.walk(), x.walks(0), x.ways()}, 8, 0, 1);
         IcicleClock y = Due.street(HEAD + "day thaw 1;day thaw 1;eave sun 1;icicle at 0 length 1 hour 1;icicle at 0 length 2 hour 1;");
         Due.row("one each day", new long[] {y.walk(), y.ways()}, 2, 1);
+        IcicleClock z = Due.street(HEAD + "day thaw 1;day thaw 1;eave sun 1;eave sun 1;icicle at 0 length 1 hour 1;"
+            + "icicle at 1 length 1 hour 1;icicle at 0 length 2 hour 1;");
+        Due.row("struck once, then not", new long[] {z.walk(), z.walks(0), z.walks(1), z.ways()}, 1, 0, 1, 2);
     }
 
     private static void noWalk() {
@@ -60,8 +63,27 @@ public final class EdgeWalksTest {
         for (int day : wrong) {
             Due.due("walks(" + day + ")", x.walks(day), -2);
         }
+        fromTheLast();
         IcicleClock full = Due.street(HEAD + "day thaw 0;".repeat(14) + "eave sun 1;".repeat(5) + "icicle at 4 length 1 hour 1;");
         Due.row("the last day, none behind it", new long[] {full.walks(13), full.walks(14)}, 0, -2);
+    }
+
+    /** On day 0 all but eave k are struck, on day 1 all but the one beside it: each walk is the only one. */
+    private static void fromTheLast() {
+        for (int step = -1; step <= 1; step++) {
+            for (int free = Math.max(0, -step); free < 5 && free + step < 5; free++) {
+                StringBuilder text = new StringBuilder(HEAD + "day thaw 1;day thaw 1;" + "eave sun 1;".repeat(5));
+                for (int eave = 0; eave < 5; eave++) {
+                    text.append(eave == free ? "" : "icicle at " + eave + " length 1 hour 1;");
+                }
+                for (int eave = Math.max(0, free - 1); eave <= free + 1 && eave < 5; eave++) {
+                    text.append(eave == free + step ? "" : "icicle at " + eave + " length 2 hour 1;");
+                }
+                Due.row("on the second day, from " + free, new long[] {Due.street(text.toString()).walks(1)}, free + step);
+                IcicleClock x = Due.street(text.toString());
+                Due.row("from " + free + " by " + step, new long[] {x.walks(0), x.walk(), x.ways(), x.walks(1)}, free, 0, 1, free + step);
+            }
+        }
     }
 
     private static int walksFrom(int eave, int daysLeft, int eaves) {
