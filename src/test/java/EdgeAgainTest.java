@@ -62,11 +62,10 @@ public final class EdgeAgainTest {
         Due.sentence(37, "pairs of an EAVE and a DAY by which all FALL as a SLOT's row tells");
         IcicleClock x = Due.street(SMALL.replace("odds 5", "odds 10").replace("length 9", "length 4"));
         Due.see(x, 0, 1, IcicleClock.NONE);
-        Due.row("at first", new long[] {x.slams(0), x.drawn(3, 1)}, 2, 3);
-        long[] before = {x.slams(0), x.slam(0), x.ask(0), x.drawn(3, 1), x.luck(3, 20, 0, 0), x.best(1)};
-        Due.row("again", new long[] {x.slams(0), x.slam(0), x.ask(0), x.drawn(3, 1), x.luck(3, 20, 0, 0), x.best(1)}, before);
-        x.drawn(3, 0);
-        Due.row("behind a winter drawn", new long[] {x.slams(0), x.slam(0), x.ask(0)}, before[0], before[1], before[2]);
+        for (int time = 0; time < 3; time++) {
+            Due.row("asked again", new long[] {x.slams(0), x.slam(0), x.ask(0), x.drawn(3, 1), x.luck(3, 20, 0, 0), x.best(1)},
+                2, 0, IcicleClock.NONE, 3, 20, 1);
+        }
         IcicleClock cold = Due.street(SMALL.replace("odds 5", "odds 0").replace("length 9", "length 4"));
         cold.row(0, 0, 0);
         cold.slams(0);
