@@ -12,14 +12,13 @@ import java.util.Set;
 import java.util.regex.Matcher;
 import java.util.regex.Pattern;
 
-/** The face is the document's, member by member, and the source keeps to LANGUAGE.md where a text can show it. */
+/** The face is the document's, member by member, and nothing else shows (rule 1 of LANGUAGE.md; LanguageTest has the others). */
 public final class FaceTest {
     public static void main(String[] args) throws Exception {
         faceIsTheDocuments();
         nothingElseShows();
         Due.due("NONE", IcicleClock.NONE, -1);
         Due.due("the class is final", Modifier.isFinal(IcicleClock.class.getModifiers()) ? 1 : 0, 1);
-        sourceKeepsToTheLanguage();
         Due.finish();
     }
 
@@ -54,6 +53,21 @@ public final class FaceTest {
         }
         Due.due("methods are the document's", asked.equals(has) ? 1 : 0, 1);
         Due.due("how many methods", has.size(), 63);
+        promisesAreOfTheFace(document, face);
+    }
+
+    /** Promise k is headed by member k of the face: the constructor, then the methods in their order. */
+    private static void promisesAreOfTheFace(String document, String face) {
+        List<String> members = new ArrayList<>();
+        Matcher member = Pattern.compile("public ((?:int |long )?\\w+\\([^)]*\\));").matcher(face);
+        while (member.find()) {
+            members.add(member.group(1));
+        }
+        Due.due("how many promises", document.split("\n## Promise ").length - 1, members.size());
+        for (int k = 1; k <= members.size(); k++) {
+            boolean heads = Due.promiseText(k).contains("\n`" + members.get(k - 1) + "`: ");
+            Due.due("promise " + k + " is of " + members.get(k - 1), heads ? 1 : 0, 1);
+        }
     }
 
     private static void nothingElseShows() {
@@ -85,29 +99,6 @@ public final class FaceTest {
             for (Method method : own.getDeclaredMethods()) {
                 Due.due("no public name again: " + method.getName(), shown.contains(method.getName()) ? 1 : 0, 0);
                 Due.due("seven parameters: " + method.getName(), method.getParameterCount() <= 7 ? 1 : 0, 1);
-            }
-        }
-    }
-
-    private static void sourceKeepsToTheLanguage() throws Exception {
-        String source = Files.readString(Path.of("src/main/java/IcicleClock.java"));
-        String bare = source.replaceAll("(?s)/\\*.*?\\*/", "").replaceAll("//[^\n]*", "");
-        String[] ruledOut = {"\\bthrow\\b", "\\btry\\b", "\\bcatch\\b", "\\bsynchronized\\b", "\\bassert\\b", "->",
-            "::", "\\bpackage\\b", "Exact\\b", "\\bdouble\\b", "\\bfloat\\b", "\\bSystem\\.(?!arraycopy)",
-            "\\bThread\\b", "\\bstatic\\s*\\{", "\\bhashCode\\b", "\\btoString\\b"};
-        for (String pattern : ruledOut) {
-            Due.due("the source has " + pattern, Pattern.compile(pattern).matcher(bare).find() ? 1 : 0, 0);
-        }
-        Matcher imported = Pattern.compile("import ([^;]+);").matcher(bare);
-        while (imported.find()) {
-            Due.due("import " + imported.group(1), imported.group(1).equals("java.util.Arrays") ? 1 : 0, 1);
-        }
-        int length = 0;
-        for (String line : source.split("\n")) {
-            boolean opens = line.matches(" {4}( {4})?\\S.*\\) \\{");
-            length = opens ? 0 : length + 1;
-            if (line.matches(" {4}( {4})?\\}")) {
-                Due.due("a method of sixty lines at most", length <= 60 ? 1 : 0, 1);
             }
         }
     }
